@@ -16,7 +16,7 @@ public final class Leaguewheel {
     private static final int CATCH_UP_LIMIT = 25;
     private static final int SHELL_TICKS = 5;
     private static final int BOLT_TICKS = 2;
-    /** More passings than calls that the document speaks of cannot come. */
+    /** The document speaks of 512 calls, so a race has fewer passings. */
     private static final int RECORD_LIMIT = 512;
 
     private final Track track;
@@ -400,7 +400,7 @@ public final class Leaguewheel {
         }
 
         boolean isNeeded(int gate) {
-            return (neededGates & 1 << gate) != 0;
+            return (neededGates & (1 << gate)) != 0;
         }
 
         int wayLength(int from, int to) {
@@ -809,7 +809,7 @@ public final class Leaguewheel {
             int worse = 0;
             for (int other = 0; other < ended; other++) {
                 int points = pointRow[other * KART_LIMIT + kart];
-                if (points < own || points == own && other < nr) {
+                if (points < own || (points == own && other < nr)) {
                     worse++;
                 }
             }

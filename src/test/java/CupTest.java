@@ -184,7 +184,7 @@ final class CupTest {
         }
     }
 
-    /** 0 has 18 by 10 and 8, 2 by 6, 6 and 6 (places 2), with 1 ahead of both. */
+    /** The karts 0 and 2 have 18 points both, 0 by the places 0 and 1, 2 by the place 2 thrice. */
     private static void standingByPlaces() {
         Leaguewheel x = Cups.ring(5, 4);
         Cups.raceOnRing(x, 1, 3, 2);
@@ -206,7 +206,7 @@ final class CupTest {
         standing("all races count for the places", y, "0>2>1");
     }
 
-    /** Places 0 1 2 each of three, then 3 to 5 tell; all by karts without points. */
+    /** With all races dropped, or none that gave points, the places alone tell. */
     private static void standingByLaterPlaces() {
         Leaguewheel x = Cups.ring(5, 6);
         Cups.raceOnRing(x, 0, 1, 2, 3, 4, 5);

@@ -69,17 +69,22 @@ final class ItemTest {
         return stuns.toString();
     }
 
-    /** From 0 the numbers are 12345, -740551042, -1898606993; their places 0, 0, 1 (tenth of 65536 each). */
+    /** From 0 the numbers are 12345, -740551042, -1492899873, -698016724, 229283573, -1038148470. */
     private static void drawFromZero() {
         Leaguewheel x = started(4);
-        int first = 12345;
-        int second = first * 1103515245 + 12345;
-        int[] others = {BOLT, BOOST, SHELL, BOLT};
-        check.due("19: the first, place 0", x.draw(0), SHIELD);
-        check.due("19: the second", x.draw(3), others[(second >>> 16) % 4]);
+        check.due("19: 12345, place 0 of the first", x.draw(0), SHIELD);
+        int[] items = {BOLT, BOLT, BOOST, SHELL, BOLT};
+        for (int item : items) {
+            check.due("19: the numbers from 0 on", x.draw(3), item);
+            x.use(3);
+        }
         Leaguewheel y = started(4);
-        y.setDraw(first);
-        check.due("18: going on from the first", y.draw(3), others[(second >>> 16) % 4]);
+        y.setDraw(-698016724);
+        check.due("18: going on from the fourth", y.draw(3), SHELL);
+        y.setDraw(Integer.MAX_VALUE);
+        check.due("18: from the greatest int", y.draw(2), SHIELD);
+        y.setDraw(Integer.MIN_VALUE);
+        check.due("18: from the least int", y.draw(1), SHELL);
     }
 
     private static void drawAllPlacesByRank() {

@@ -5,6 +5,7 @@ final class RaceTest {
     public static void main(String[] args) {
         start();
         startRefuses();
+        startWithTwelveGates();
         startBeginsAnew();
         isOn();
         passForwards();
@@ -24,6 +25,8 @@ final class RaceTest {
         ranksByRecordAlways();
         catchUp();
         catchUpAtOddGates();
+        catchUpOfSixKarts();
+        moreCallsThanPromised();
         check.finish();
     }
 
@@ -73,6 +76,22 @@ final class RaceTest {
         y.addGate(true);
         y.addWay(1, 0, 1);
         check.diesOfState("8: no way from the line", () -> y.start(1));
+    }
+
+    private static void startWithTwelveGates() {
+        Leaguewheel x = new Leaguewheel();
+        x.addKart(0);
+        for (int gate = 1; gate < 12; gate++) {
+            x.addGate(true);
+            x.addWay(gate - 1, gate, 100);
+        }
+        check.diesOfState("8: no way from gate 11", () -> x.start(1));
+        x.addWay(11, 0, 100);
+        check.due("8: with twelve gates", x.start(1), 0);
+        check.due("14: eleven gates", x.missing(0), 4094);
+        Cups.go(x, 0, 1, 2, 3, 4, 5, 6, 7, 8, 9, 10, 11);
+        check.due("14: all passed", x.missing(0), 0);
+        check.due("10: the lap", x.pass(0, 0), Leaguewheel.FINISHED);
     }
 
     private static void startBeginsAnew() {
@@ -471,5 +490,28 @@ final class RaceTest {
         Cups.go(y, 0, 0);
         Cups.go(y, 1, 2);
         check.due("17: behind a finished one", y.catchUp(1), 0);
+    }
+
+    private static void catchUpOfSixKarts() {
+        Leaguewheel x = Cups.ring(20, 6);
+        x.start(2);
+        Cups.go(x, 5, 1);
+        for (int kart = 0; kart < 5; kart++) {
+            check.due("17: behind the sixth", x.catchUp(kart), 2);
+        }
+        check.due("17: the sixth", x.catchUp(5), 0);
+    }
+
+    /** Those answers are free, but no exception of the machine may come. */
+    private static void moreCallsThanPromised() {
+        Leaguewheel x = Cups.fork(0);
+        x.start(9);
+        for (int call = 0; call < 2000; call++) {
+            int to = 1 - x.gateOf(0);
+            Object answer = Check.answerOf(() -> x.pass(0, to));
+            check.due("10: beyond the 512th call", answer instanceof Integer
+                    || answer.equals("IllegalStateException"), true);
+        }
+        check.due("16: beyond the 512th call", x.rankByRecord(0), 0);
     }
 }
