@@ -388,6 +388,19 @@ final class RaceTest {
         Cups.go(y, 1, 2);
         Cups.go(y, 0, 1);
         ranks("two gates with the same rest", y, "10");
+
+        Leaguewheel z = new Leaguewheel();
+        z.addGate(false);
+        z.addGate(false);
+        z.addWay(0, 1, 5);
+        z.addWay(1, 0, 5);
+        z.addWay(0, 2, 1);
+        z.addWay(2, 0, 10);
+        z.addKart(0);
+        z.addKart(0);
+        z.start(1);
+        Cups.go(z, 0, 2);
+        ranks("the first passing is behind none, at the same rest", z, "10");
     }
 
     private static void ranksOfFinished() {
