@@ -400,7 +400,7 @@ final class RaceTest {
         z.addKart(0);
         z.start(1);
         Cups.go(z, 0, 2);
-        ranks("the first passing is behind none, at the same rest", z, "10");
+        ranks("who has passed is behind who has not, at the same rest", z, "10");
     }
 
     private static void ranksOfFinished() {
