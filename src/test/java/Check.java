@@ -46,6 +46,10 @@ final class Check {
         }
     }
 
+    int answers() {
+        return calls;
+    }
+
     void finish() {
         System.out.println(test + ": " + calls + " answers, " + wrong + " not as due");
         if (wrong != 0) {

@@ -20,14 +20,6 @@ final class CupTest {
         check.finish();
     }
 
-    private static String points(Leaguewheel x) {
-        StringBuilder points = new StringBuilder();
-        for (int kart = 0; kart < x.karts(); kart++) {
-            points.append(kart == 0 ? "" : " ").append(x.points(kart));
-        }
-        return points.toString();
-    }
-
     private static void standing(String what, Leaguewheel x, String want) {
         check.due("30, 31: " + what, Cups.text(x), want);
         for (int place = 0; place < x.karts(); place++) {
@@ -54,14 +46,14 @@ final class CupTest {
 
     private static void pointsByPlace() {
         Leaguewheel x = Cups.ring(5, 6);
-        check.due("27: before", points(x), "0 0 0 0 0 0");
+        check.due("27: before", Cups.points(x), "0 0 0 0 0 0");
         x.start(1);
         for (int kart : new int[] {3, 1, 5, 0, 2, 4}) {
             Cups.go(x, kart, 1, 0);
         }
-        check.due("27: while the race is on", points(x), "0 0 0 0 0 0");
+        check.due("27: while the race is on", Cups.points(x), "0 0 0 0 0 0");
         x.end();
-        check.due("27: after", points(x), "5 8 4 10 3 6");
+        check.due("27: after", Cups.points(x), "5 8 4 10 3 6");
         for (int kart : new int[] {-1, 6, Integer.MIN_VALUE}) {
             check.diesOfIndex("27: no such kart", () -> x.points(kart));
         }
@@ -75,7 +67,7 @@ final class CupTest {
         Cups.go(x, 3, 1, 0);
         Cups.go(x, 1, 1);
         x.end();
-        check.due("27: a lap is enough, none is not", points(x), "0 0 0 10");
+        check.due("27: a lap is enough, none is not", Cups.points(x), "0 0 0 10");
         check.due("25: but there is a place", x.place(0, 1), 1);
 
         Leaguewheel y = Cups.fork(0, 1, 2);
@@ -84,7 +76,7 @@ final class CupTest {
         Cups.go(y, 1, 1, 3, 0, 1, 3, 0, 3);
         Cups.go(y, 2, 3);
         y.end();
-        check.due("27: laps less debts", points(y), "0 10 0");
+        check.due("27: laps less debts", Cups.points(y), "0 10 0");
     }
 
     private static void placesOfEndedRaces() {
@@ -124,15 +116,15 @@ final class CupTest {
         Cups.raceOnRing(x, 1, 2, 0);
         Cups.raceOnRing(x, 0, 2, 1);
         Cups.raceOnRing(x, 1, 0);
-        check.due("27: none dropped", points(x), "34 34 22");
+        check.due("27: none dropped", Cups.points(x), "34 34 22");
         x.setDropped(1);
-        check.due("27: one dropped", points(x), "28 28 22");
+        check.due("27: one dropped", Cups.points(x), "28 28 22");
         x.setDropped(2);
-        check.due("27: two dropped", points(x), "20 20 16");
+        check.due("27: two dropped", Cups.points(x), "20 20 16");
         x.setDropped(3);
-        check.due("27: three dropped", points(x), "10 10 8");
+        check.due("27: three dropped", Cups.points(x), "10 10 8");
         x.setDropped(0);
-        check.due("27: none again", points(x), "34 34 22");
+        check.due("27: none again", Cups.points(x), "34 34 22");
 
         Leaguewheel y = Cups.ring(5, 1);
         Cups.raceOnRing(y, 0);
@@ -191,10 +183,10 @@ final class CupTest {
         Cups.raceOnRing(x, 1, 3, 2);
         Cups.raceOnRing(x, 1, 0, 2);
         Cups.raceOnRing(x, 0);
-        check.due("27: as many points", points(x), "18 30 18 16");
+        check.due("27: as many points", Cups.points(x), "18 30 18 16");
         standing("the place 0 more often", x, "1>0>2>3");
         x.setDropped(3);
-        check.due("27: the best race each", points(x), "10 10 6 8");
+        check.due("27: the best race each", Cups.points(x), "10 10 6 8");
         standing("three times the place 0 in all races", x, "1>0>3>2");
 
         Leaguewheel y = Cups.ring(5, 3);
@@ -202,7 +194,7 @@ final class CupTest {
         Cups.raceOnRing(y, 0, 1);
         Cups.raceOnRing(y, 0, 2);
         y.setDropped(3);
-        check.due("27: all dropped", points(y), "0 0 0");
+        check.due("27: all dropped", Cups.points(y), "0 0 0");
         standing("all races count for the places", y, "0>2>1");
     }
 
@@ -231,7 +223,7 @@ final class CupTest {
         Leaguewheel x = Cups.ring(5, 3);
         Cups.raceOnRing(x, 2, 1, 0);
         Cups.raceOnRing(x, 0, 1, 2);
-        check.due("27: 10 and 6, twice 8", points(x), "16 16 16");
+        check.due("27: 10 and 6, twice 8", Cups.points(x), "16 16 16");
         standing("alike, so the lower number; the place 1 is less", x, "0>2>1");
     }
 
@@ -270,9 +262,9 @@ final class CupTest {
         }
         check.due("24: eight", x.races(), 8);
         check.due("25: the last place of all", x.place(7, 5), 0);
-        check.due("27: eight races", points(x), "24 32 40 48 64 80");
+        check.due("27: eight races", Cups.points(x), "24 32 40 48 64 80");
         x.setDropped(3);
-        check.due("27: five of eight", points(x), "15 20 25 30 40 50");
+        check.due("27: five of eight", Cups.points(x), "15 20 25 30 40 50");
         standing("eight races", x, "5>4>3>2>1>0");
         check.diesOfIndex("25: a ninth race", () -> x.place(8, 0));
     }

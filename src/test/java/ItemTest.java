@@ -25,48 +25,10 @@ final class ItemTest {
         check.finish();
     }
 
-    /** Some x from which the next item is the one at this place of its rank. */
-    private static int numberFor(int place) {
-        for (int x = 0; x < 1_000_000; x++) {
-            if (((x * 1103515245 + 12345) >>> 16) % 4 == place) {
-                return x;
-            }
-        }
-        throw new AssertionError("no number for place " + place);
-    }
-
-    /** Draws until the kart has this item; at each rank that has it, one of the four places gives it. */
-    private static void give(Leaguewheel x, int kart, int item) {
-        int rank = x.rank(kart);
-        int[] items = rank == 0 ? new int[] {SHIELD, SHIELD, SHELL, BOOST}
-                : rank <= 2 ? new int[] {SHELL, SHIELD, BOOST, SHELL}
-                : new int[] {BOLT, BOOST, SHELL, BOLT};
-        for (int place = 0; place < 4; place++) {
-            if (items[place] == item && x.itemOf(kart) == Leaguewheel.NONE) {
-                x.setDraw(numberFor(place));
-                check.due("19: draw of rank " + rank, x.draw(kart), item);
-            }
-        }
-        check.due("21: itemOf", x.itemOf(kart), item);
-    }
-
-    private static int use(Leaguewheel x, int kart, int item) {
-        give(x, kart, item);
-        return x.use(kart);
-    }
-
     private static Leaguewheel started(int karts) {
         Leaguewheel x = Cups.ring(5, karts);
         x.start(1);
         return x;
-    }
-
-    private static String stuns(Leaguewheel x) {
-        StringBuilder stuns = new StringBuilder();
-        for (int kart = 0; kart < x.karts(); kart++) {
-            stuns.append(x.stunned(kart));
-        }
-        return stuns.toString();
     }
 
     /** From 0 the numbers are 12345, -740551042, -1492899873, -698016724, 229283573, -1038148470. */
@@ -88,14 +50,11 @@ final class ItemTest {
     }
 
     private static void drawAllPlacesByRank() {
-        int[][] items = {
-            {SHIELD, SHIELD, SHELL, BOOST}, {SHELL, SHIELD, BOOST, SHELL}, {SHELL, SHIELD, BOOST, SHELL},
-            {BOLT, BOOST, SHELL, BOLT}, {BOLT, BOOST, SHELL, BOLT}, {BOLT, BOOST, SHELL, BOLT}};
         for (int place = 0; place < 4; place++) {
             Leaguewheel x = started(6);
             for (int kart = 0; kart < 6; kart++) {
-                x.setDraw(numberFor(place));
-                check.due("19: rank " + kart + ", place " + place, x.draw(kart), items[kart][place]);
+                x.setDraw(Cups.numberFor(place));
+                check.due("19: rank " + kart + ", place " + place, x.draw(kart), Cups.itemsOfRank(kart)[place]);
             }
         }
     }
@@ -124,10 +83,10 @@ final class ItemTest {
         x.start(1);
         check.diesOfIndex("19: kart 2", () -> x.draw(2));
         check.diesOfIndex("19: kart -1", () -> x.draw(-1));
-        x.setDraw(numberFor(3));
+        x.setDraw(Cups.numberFor(3));
         int item = x.draw(0);
         check.due("19: the item", item, BOOST);
-        x.setDraw(numberFor(2));
+        x.setDraw(Cups.numberFor(2));
         check.diesOfState("19: it has an item", () -> x.draw(0));
         check.due("21: it keeps it", x.itemOf(0), item);
         check.due("19: a refused draw draws nothing", x.draw(1), BOOST);
@@ -148,11 +107,11 @@ final class ItemTest {
         check.diesOfIndex("20: kart 2", () -> x.use(2));
         check.diesOfIndex("20: kart -1", () -> x.use(-1));
         check.diesOfState("20: no item", () -> x.use(0));
-        give(x, 0, SHIELD);
+        Cups.give(x, 0, SHIELD);
         check.due("20: an item", x.use(0), 0);
         check.due("21: none any more", x.itemOf(0), Leaguewheel.NONE);
         check.diesOfState("20: once only", () -> x.use(0));
-        give(x, 0, SHIELD);
+        Cups.give(x, 0, SHIELD);
         Cups.go(x, 0, 1, 0);
         check.diesOfState("20: a finished kart", () -> x.use(0));
         check.due("21: which keeps its item", x.itemOf(0), SHIELD);
@@ -160,79 +119,79 @@ final class ItemTest {
 
     private static void useShield() {
         Leaguewheel x = started(3);
-        check.due("20: shield", use(x, 1, SHIELD), 0);
-        check.due("20: shield upon shield", use(x, 1, SHIELD), 0);
-        check.due("20: a shell on the shielded one", use(x, 2, SHELL), 0);
+        check.due("20: shield", Cups.use(x, 1, SHIELD), 0);
+        check.due("20: shield upon shield", Cups.use(x, 1, SHIELD), 0);
+        check.due("20: a shell on the shielded one", Cups.use(x, 2, SHELL), 0);
         check.due("22: it is not stunned", x.stunned(1), 0);
-        check.due("20: a second one hits", use(x, 2, SHELL), 1);
+        check.due("20: a second one hits", Cups.use(x, 2, SHELL), 1);
         check.due("22: for 5 ticks", x.stunned(1), 5);
     }
 
     private static void useShell() {
         Leaguewheel x = started(4);
         x.idle(10);
-        check.due("20: shell of the last one", use(x, 3, SHELL), 1);
-        check.due("22: the one ahead alone", stuns(x), "0050");
+        check.due("20: shell of the last one", Cups.use(x, 3, SHELL), 1);
+        check.due("22: the one ahead alone", Cups.stuns(x), "0050");
         Cups.go(x, 3, 1);
-        check.due("20: shell of the new second", use(x, 0, SHELL), 1);
-        check.due("22: hits the new first", stuns(x), "0055");
+        check.due("20: shell of the new second", Cups.use(x, 0, SHELL), 1);
+        check.due("22: hits the new first", Cups.stuns(x), "0055");
     }
 
     private static void useShellOfTheFirst() {
         Leaguewheel x = started(3);
-        check.due("20: shell of the first one", use(x, 0, SHELL), 0);
-        check.due("22: hits none", stuns(x), "000");
+        check.due("20: shell of the first one", Cups.use(x, 0, SHELL), 0);
+        check.due("22: hits none", Cups.stuns(x), "000");
     }
 
     private static void useBolt() {
         Leaguewheel x = started(6);
-        use(x, 1, SHIELD);
-        check.due("20: bolt of rank 4, one is shielded", use(x, 4, BOLT), 3);
-        check.due("22: all ahead but the shielded one", stuns(x), "202200");
-        check.due("20: bolt of rank 3", use(x, 3, BOLT), 3);
-        check.due("22: the shield is gone", stuns(x), "222200");
+        Cups.use(x, 1, SHIELD);
+        check.due("20: bolt of rank 4, one is shielded", Cups.use(x, 4, BOLT), 3);
+        check.due("22: all ahead but the shielded one", Cups.stuns(x), "202200");
+        check.due("20: bolt of rank 3", Cups.use(x, 3, BOLT), 3);
+        check.due("22: the shield is gone", Cups.stuns(x), "222200");
     }
 
     private static void useBoost() {
         Leaguewheel x = started(3);
-        give(x, 1, BOOST);
-        use(x, 2, SHELL);
+        Cups.give(x, 1, BOOST);
+        Cups.use(x, 2, SHELL);
         check.due("22: stunned", x.stunned(1), 5);
         check.diesOfState("10: a stunned kart", () -> x.pass(1, 1));
         check.due("20: a stunned kart can use it", x.use(1), 0);
         check.due("22: not any more", x.stunned(1), 0);
         check.due("10: so it passes", x.pass(1, 1), Leaguewheel.RIGHT);
-        check.due("20: boost without a stun", use(x, 1, BOOST), 0);
-        check.due("22: nothing", stuns(x), "000");
+        check.due("20: boost without a stun", Cups.use(x, 1, BOOST), 0);
+        check.due("22: nothing", Cups.stuns(x), "000");
     }
 
     /** A later end stands; a hit does not lengthen what lasts longer anyway. */
     private static void stunsAddUp() {
         Leaguewheel x = started(6);
-        use(x, 3, SHELL);
+        Cups.use(x, 3, SHELL);
         x.idle(1);
-        use(x, 5, BOLT);
-        check.due("22: 4 ticks are left, 2 are less", stuns(x), "224220");
+        Cups.use(x, 5, BOLT);
+        check.due("22: 4 ticks are left, 2 are less", Cups.stuns(x), "224220");
         x.idle(1);
-        check.due("22: a tick on", stuns(x), "113110");
-        use(x, 3, SHELL);
-        check.due("22: 5 are more than 3", stuns(x), "115110");
-        check.due("20: a stunned one counts as hit", use(x, 3, BOLT), 3);
-        check.due("22: 2 are more than 1", stuns(x), "225110");
+        check.due("22: a tick on", Cups.stuns(x), "113110");
+        Cups.use(x, 3, SHELL);
+        check.due("22: 5 are more than 3", Cups.stuns(x), "115110");
+        check.due("20: a stunned one counts as hit", Cups.use(x, 3, BOLT), 3);
+        check.due("22: 2 are more than 1", Cups.stuns(x), "225110");
     }
 
     private static void finishedAreNotHit() {
         Leaguewheel x = started(6);
         Cups.go(x, 5, 1, 0);
-        check.due("20: shell on a finished one", use(x, 0, SHELL), 0);
-        check.due("20: bolt past a finished one", use(x, 4, BOLT), 4);
-        check.due("22: it is not stunned", stuns(x), "222200");
-        check.due("20: bolt of rank 4", use(x, 3, BOLT), 3);
+        check.due("20: shell on a finished one", Cups.use(x, 0, SHELL), 0);
+        check.due("20: bolt past a finished one", Cups.use(x, 4, BOLT), 4);
+        check.due("22: it is not stunned", Cups.stuns(x), "222200");
+        check.due("20: bolt of rank 4", Cups.use(x, 3, BOLT), 3);
     }
 
     private static void stunEnds() {
         Leaguewheel x = started(3);
-        use(x, 2, SHELL);
+        Cups.use(x, 2, SHELL);
         x.idle(4);
         check.due("22: a tick is left", x.stunned(1), 1);
         check.diesOfState("10: stunned still", () -> x.pass(1, 1));
@@ -241,7 +200,7 @@ final class ItemTest {
         check.due("10: free", x.pass(1, 1), Leaguewheel.RIGHT);
         x.idle(50);
         check.due("22: not below 0", x.stunned(1), 0);
-        use(x, 2, SHELL);
+        Cups.use(x, 2, SHELL);
         check.diesOfIndex("10: gate before stunned", () -> x.pass(0, 2));
     }
 
@@ -251,11 +210,11 @@ final class ItemTest {
         check.due("22: before a race", x.stunned(0), 0);
         x.start(1);
         check.due("21: at first", x.itemOf(0), Leaguewheel.NONE);
-        use(x, 2, SHELL);
-        use(x, 0, SHIELD);
-        give(x, 2, SHIELD);
+        Cups.use(x, 2, SHELL);
+        Cups.use(x, 0, SHIELD);
+        Cups.give(x, 2, SHIELD);
         int next = x.itemOf(2);
-        x.setDraw(numberFor(3));
+        x.setDraw(Cups.numberFor(3));
         x.end();
         check.due("21: after the race", x.itemOf(2), Leaguewheel.NONE);
         check.due("22: after the race", x.stunned(1), 0);
@@ -267,7 +226,7 @@ final class ItemTest {
         check.due("21: the item is gone", x.itemOf(2) != next, true);
         check.due("22: the stun is gone", x.stunned(1), 0);
         check.due("18: the number goes on", x.draw(0), BOOST);
-        check.due("20: the shield is gone", use(x, 1, SHELL), 1);
+        check.due("20: the shield is gone", Cups.use(x, 1, SHELL), 1);
         check.diesOfIndex("21: no such kart in a race", () -> x.itemOf(3));
         check.diesOfIndex("22: no such kart in a race", () -> x.stunned(-1));
     }

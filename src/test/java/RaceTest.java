@@ -26,7 +26,6 @@ final class RaceTest {
         catchUp();
         catchUpAtOddGates();
         catchUpOfSixKarts();
-        moreCallsThanPromised();
         check.finish();
     }
 
@@ -328,14 +327,8 @@ final class RaceTest {
 
     /** The ranks of all karts, one digit each. */
     private static void ranks(String what, Leaguewheel x, String want) {
-        StringBuilder ranks = new StringBuilder();
-        StringBuilder byRecord = new StringBuilder();
-        for (int kart = 0; kart < x.karts(); kart++) {
-            ranks.append(x.rank(kart));
-            byRecord.append(x.rankByRecord(kart));
-        }
-        check.due("15: " + what, ranks.toString(), want);
-        check.due("16: " + what, byRecord.toString(), want);
+        check.due("15: " + what, Cups.ranks(x), want);
+        check.due("16: " + what, Cups.ranksByRecord(x), want);
     }
 
     private static void ranksOfBeginners() {
@@ -513,18 +506,5 @@ final class RaceTest {
             check.due("17: behind the sixth", x.catchUp(kart), 2);
         }
         check.due("17: the sixth", x.catchUp(5), 0);
-    }
-
-    /** Those answers are free, but no exception of the machine may come. */
-    private static void moreCallsThanPromised() {
-        Leaguewheel x = Cups.fork(0);
-        x.start(9);
-        for (int call = 0; call < 2000; call++) {
-            int to = 1 - x.gateOf(0);
-            Object answer = Check.answerOf(() -> x.pass(0, to));
-            check.due("10: beyond the 512th call", answer instanceof Integer
-                    || answer.equals("IllegalStateException"), true);
-        }
-        check.due("16: beyond the 512th call", x.rankByRecord(0), 0);
     }
 }
