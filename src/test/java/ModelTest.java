@@ -3,8 +3,8 @@
  * of fixed seeds, so that each run of this test is the same.
  */
 final class ModelTest {
-    private static final int RUNS = 4000;
-    private static final int CALLS = 512;
+    static final int RUNS = 4000;
+    static final int CALLS = 512;
     private static final int[] ODD = {-1, -2, 12, 13, 100, 101, Integer.MAX_VALUE, Integer.MIN_VALUE};
 
     private static final Check check = new Check("ModelTest");
